@@ -14,6 +14,8 @@ public final class RunsTest {
   private static final int TOO_MANY_TO_TRY = -99;
   private final Check check = new Check("RunsTest");
   private final Random random;
+  /** Of 1,000 arguments so many are strange ones. */
+  private int strange = 25;
   private final Map<String, int[]> ranges = new HashMap<>();
   private final Map<String, Integer> weights = new HashMap<>();
   private final List<Method> bag = new ArrayList<>();
@@ -92,17 +94,21 @@ public final class RunsTest {
   }
 
   private int number(int least, int most) {
-    int kind = random.nextInt(200);
-    if (kind == 0) {
-      return random.nextInt();
+    if (random.nextInt(1000) >= strange) {
+      return least + random.nextInt(most - least + 1);
     }
-    if (kind == 1) {
-      return random.nextBoolean() ? Integer.MIN_VALUE : Integer.MAX_VALUE;
+    switch (random.nextInt(6)) {
+      case 0:
+        return random.nextInt();
+      case 1:
+        return random.nextBoolean() ? Integer.MIN_VALUE : Integer.MAX_VALUE;
+      case 2:
+        return random.nextInt(410) - 5;
+      case 3:
+        return 1 << random.nextInt(32);
+      default:
+        return random.nextBoolean() ? least - 1 : most + 1;
     }
-    if (kind < 5) {
-      return random.nextBoolean() ? least - 1 : most + 1;
-    }
-    return least + random.nextInt(most - least + 1);
   }
 
   private Object[] arguments(Method m) {
@@ -221,6 +227,7 @@ public final class RunsTest {
     int runs = args.length > 1 ? Integer.parseInt(args[1]) : 150;
     RunsTest t = new RunsTest(seed);
     for (int run = 0; run < runs; run++) {
+      t.strange = run % 5 == 4 ? 400 : 25;
       t.run(run);
     }
     t.check.end();
