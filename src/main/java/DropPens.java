@@ -1610,8 +1610,8 @@ public final class DropPens {
     private static final class Neighbours {
         static final int FARTHEST = 3;
         private static final int PHASES = 3;
-        private static final int MOST_STATES = 729;
-        private static final int[] POWERS = {1, 3, 9, 27, 81, 243, 729, 2187};
+        /** Two bits for each of three HOLES on either side. */
+        private static final int MOST_STATES = 1 << (4 * FARTHEST);
         /** PHASES as one number, of which the least is the best: how many are SLOW, the sum, two bits a HOLE. */
         private static final int HOLE_BITS = 2 * HOLES;
         private static final int SUM_BITS = 6;
@@ -1694,7 +1694,7 @@ public final class DropPens {
             bestChanges = ways.changes;
             lookAt(column, pass);
             int far = farthestShare();
-            int states = POWERS[2 * far];
+            int states = 1 << (4 * far);
             forgetStates(now, states);
             now[0] = 0;
             for (int hole = 0; hole < HOLES + far; hole++) {
@@ -1729,11 +1729,11 @@ public final class DropPens {
             return 0;
         }
 
-        /** A state has the PHASES of the latest HOLES as digits to the base of three, the latest lowest. */
+        /** A state has the PHASES of the latest HOLES (far on either side of one), two bits each, the latest lowest. */
         private void tryHole(int hole, int state, int far) {
             int choices = isThere(hole) ? PHASES : 1;
             for (int beat = 0; beat < choices; beat++) {
-                int window = state * PHASES + beat;
+                int window = (state << 2) + beat;
                 long all = now[state];
                 if (beat > 0) {
                     all += ((long) beat << HOLE_BITS) + ((long) beat << (2 * (HOLES - 1 - hole)));
@@ -1741,7 +1741,7 @@ public final class DropPens {
                 if (isSlowIn(window, hole - far, far)) {
                     all += 1L << (HOLE_BITS + SUM_BITS);
                 }
-                int after = window % POWERS[2 * far];
+                int after = window & ((1 << (4 * far)) - 1);
                 then[after] = Math.min(then[after], all);
             }
         }
@@ -1751,21 +1751,21 @@ public final class DropPens {
             if (!isThere(hole)) {
                 return false;
             }
-            int beat = digit(window, far);
+            int beat = beatIn(window, far);
             int speed = 100;
             for (int away = 1; away <= far; away++) {
-                if (isThere(hole - away) && digit(window, far + away) == beat) {
+                if (isThere(hole - away) && beatIn(window, far + away) == beat) {
                     speed -= shares[away];
                 }
-                if (isThere(hole + away) && digit(window, far - away) == beat) {
+                if (isThere(hole + away) && beatIn(window, far - away) == beat) {
                     speed -= shares[away];
                 }
             }
             return Math.max(0, speed) < least;
         }
 
-        private static int digit(int number, int place) {
-            return number / POWERS[place] % PHASES;
+        private static int beatIn(int window, int place) {
+            return (window >>> (2 * place)) & 3;
         }
 
         int bestSlow() {
@@ -1788,10 +1788,6 @@ public final class DropPens {
         private static final int PARTS = 4;
         private static final int PART_DIGITS = 16;
         private static final long PART = 10000000000000000L;
-        private static final long[] TENS = {
-            1L, 10L, 100L, 1000L, 10000L, 100000L, 1000000L, 10000000L, 100000000L, 1000000000L, 10000000000L,
-            100000000000L, 1000000000000L, 10000000000000L, 100000000000000L, 1000000000000000L
-        };
 
         /** Of 100 in one STATE (times STATES) how many are in another one a SECOND later. */
         private final int[] moves = {100, 0, 0, 0, 0, 100, 0, 0, 0, 0, 100, 0, 0, 0, 0, 100};
@@ -1839,7 +1835,11 @@ public final class DropPens {
         }
 
         int digit(int state, int k) {
-            return (int) (now[state * PARTS + k / PART_DIGITS] / TENS[k % PART_DIGITS] % 10);
+            long part = now[state * PARTS + k / PART_DIGITS];
+            for (int lower = k % PART_DIGITS; lower > 0; lower--) {
+                part /= 10;
+            }
+            return (int) (part % 10);
         }
 
         /** The STATE with the greatest ODDS; of these the least. */
