@@ -41,25 +41,41 @@ public final class DropPens {
     private static final int CLEANED = 4;
     private static final int INKS = 5;
 
-    private final Ledger ledger = new Ledger();
-    private final Ledger[] marked = new Ledger[MOST_MARKS];
-    private final int[] settings = {1, 9, 20, 2, 9, 3};
-    private final Sketch sketch = new Sketch();
-    private final Drops drops = new Drops(ledger);
-    private final Ways ways = new Ways(ledger, drops, settings);
-    private final Tolls tolls = new Tolls(ledger, drops, settings);
-    private final Chamber chamber = new Chamber();
-    private final Probe probe = new Probe();
-    private final Cleaner cleaner = new Cleaner(ledger, settings);
-    private final Neighbours neighbours = new Neighbours(ledger, ways);
-    private final Chances chances = new Chances();
+    private final Ledger ledger;
+    private final Ledger[] marked;
+    private final int[] settings;
+    private final Sketch sketch;
+    private final Ways ways;
+    private final Tolls tolls;
+    private final Chamber chamber;
+    private final Probe probe;
+    private final Cleaner cleaner;
+    private final Neighbours neighbours;
+    private final Chances chances;
     private int marks = 0;
     private int prints = 0;
 
     public DropPens() {
+        // the parts are tied together ahead of the object, which so hands out nothing of itself
+        Ledger newLedger = new Ledger();
+        int[] newSettings = {1, 9, 20, 2, 9, 3};
+        Drops newDrops = new Drops(newLedger);
+        Ways newWays = new Ways(newLedger, newDrops, newSettings);
+        Ledger[] newMarked = new Ledger[MOST_MARKS];
         for (int i = 0; i < MOST_MARKS; i++) {
-            marked[i] = new Ledger();
+            newMarked[i] = new Ledger();
         }
+        ledger = newLedger;
+        marked = newMarked;
+        settings = newSettings;
+        sketch = new Sketch();
+        ways = newWays;
+        tolls = new Tolls(newLedger, newDrops, newSettings);
+        chamber = new Chamber();
+        probe = new Probe();
+        cleaner = new Cleaner(newLedger, newSettings);
+        neighbours = new Neighbours(newLedger, newWays);
+        chances = new Chances();
     }
 
     // ---- the head, the passes, the settings ----
@@ -1200,10 +1216,14 @@ public final class DropPens {
     /** BOUNDS, and TOLLS that CLIMB. */
     private static final class Tolls {
         private static final int MOST_ROUNDS = 10;
+        /** The ROWS that reach one: two on either side at most. */
+        private static final int MOST_NEAR = 5;
 
         private final Ledger ledger;
         private final Drops drops;
         private final int[] settings;
+        /** The TOLL of a ROW from which on the DROPS of each ROW near it take of it. */
+        private final int[] likings = new int[MOST_NEAR];
 
         Tolls(Ledger ledger, Drops drops, int[] settings) {
             this.ledger = ledger;
@@ -1217,8 +1237,11 @@ public final class DropPens {
             int sum = 0;
             for (int row = 0; row < ROWS; row++) {
                 sum += unitsIn(row, column) * worth(row);
+                if (drops.falls[row] > 0) {
+                    sum -= drops.falls[row] * gain(row, column, NONE);
+                }
             }
-            return sum - gains(0, ROWS - 1, column);
+            return sum;
         }
 
         void raise(int column) {
@@ -1227,51 +1250,47 @@ public final class DropPens {
             for (int round = 0; round < MOST_ROUNDS && changed; round++) {
                 changed = false;
                 for (int row = 0; row < ROWS; row++) {
-                    int was = ledger.tolls[row];
-                    raiseRow(row, column);
-                    changed = changed || ledger.tolls[row] != was;
+                    int best = bestToll(row, column);
+                    changed = changed || ledger.tolls[row] != best;
+                    ledger.tolls[row] = best;
                 }
             }
         }
 
-        /** Only what this TOLL can change is looked at: the UNITS of its ROW, the DROPS that reach it. */
-        private void raiseRow(int row, int column) {
-            int best = 0;
+        /**
+         * A TOLL that goes up by 1 adds 1 for each UNIT of its ROW, and takes off 1 for each DROP that likes this ROW as
+         * well as any other: there are ever more of these, so the first TOLL with as many DROPS as UNITS is the best.
+         */
+        private int bestToll(int row, int column) {
             int units = unitsIn(row, column);
-            if (units > 0) {
-                int from = Math.max(0, row - settings[REACH]);
-                int to = Math.min(ROWS - 1, row + settings[REACH]);
-                int greatest = 0;
-                // a TOLL above MISS is worth no more than MISS
-                for (int v = 0; v <= settings[MISS] && v <= MOST_TOLL; v++) {
-                    ledger.tolls[row] = v;
-                    int part = units * worth(row) - gains(from, to, column);
-                    if (v == 0 || part > greatest) {
-                        greatest = part;
-                        best = v;
-                    }
+            if (units == 0) {
+                return 0;
+            }
+            int from = Math.max(0, row - settings[REACH]);
+            int to = Math.min(ROWS - 1, row + settings[REACH]);
+            for (int fallen = from; fallen <= to; fallen++) {
+                likings[fallen - from] = gain(fallen, column, row) + (row - fallen) * (row - fallen);
+            }
+            // a TOLL above MISS is worth no more than MISS
+            for (int v = 0; v < settings[MISS]; v++) {
+                int taking = 0;
+                for (int fallen = from; fallen <= to; fallen++) {
+                    taking += likings[fallen - from] <= v ? drops.falls[fallen] : 0;
+                }
+                if (taking >= units) {
+                    return v;
                 }
             }
-            ledger.tolls[row] = best;
+            return settings[MISS];
         }
 
-        /** What the DROPS that fall in these ROWS take off the BOUND. */
-        private int gains(int from, int to, int column) {
-            int sum = 0;
-            for (int row = from; row <= to; row++) {
-                if (drops.falls[row] > 0) {
-                    sum += drops.falls[row] * gain(row, column);
-                }
-            }
-            return sum;
-        }
-
-        private int gain(int fallen, int column) {
+        /** What a DROP takes off the BOUND by where it has fallen, one ROW left out (NONE: none is). */
+        private int gain(int fallen, int column, int without) {
             int from = Math.max(0, fallen - settings[REACH]);
             int to = Math.min(ROWS - 1, fallen + settings[REACH]);
             int most = 0;
             for (int row = from; row <= to; row++) {
-                if (unitsIn(row, column) > 0) {
+                if (row != without && unitsIn(row, column) > 0) {
                     most = Math.max(most, worth(row) - (row - fallen) * (row - fallen));
                 }
             }
@@ -1628,6 +1647,9 @@ public final class DropPens {
         /** The best number so far by the PHASES of the latest HOLES. */
         private long[] now = new long[MOST_STATES];
         private long[] then = new long[MOST_STATES];
+        /** Whether there is a HOLE to judge, and what those beside it can take of its PACE. */
+        private boolean judged = false;
+        private final int[] losses = new int[2 * FARTHEST + 1];
         private int bestColumn = NONE;
         private int bestPass = NONE;
         private int bestChanges = 0;
@@ -1698,6 +1720,7 @@ public final class DropPens {
             forgetStates(now, states);
             now[0] = 0;
             for (int hole = 0; hole < HOLES + far; hole++) {
+                weigh(hole - far, far);
                 forgetStates(then, states);
                 for (int state = 0; state < states; state++) {
                     if (now[state] != NO_WAY) {
@@ -1729,39 +1752,41 @@ public final class DropPens {
             return 0;
         }
 
+        /** Takes down what each HOLE beside one that is judged can take of its PACE, the latest first. */
+        private void weigh(int hole, int far) {
+            judged = isThere(hole);
+            for (int place = 0; place <= 2 * far; place++) {
+                boolean beside = place != far && isThere(hole + far - place);
+                losses[place] = beside ? shares[Math.abs(far - place)] : 0;
+            }
+        }
+
         /** A state has the PHASES of the latest HOLES (far on either side of one), two bits each, the latest lowest. */
         private void tryHole(int hole, int state, int far) {
+            int window = state << 2;
+            int middle = beatIn(window, far);
+            int pace = judged ? paceIn(window, middle, far) : 100;
             int choices = isThere(hole) ? PHASES : 1;
             for (int beat = 0; beat < choices; beat++) {
-                int window = (state << 2) + beat;
                 long all = now[state];
                 if (beat > 0) {
                     all += ((long) beat << HOLE_BITS) + ((long) beat << (2 * (HOLES - 1 - hole)));
                 }
-                if (isSlowIn(window, hole - far, far)) {
+                if (judged && Math.max(0, pace - (beat == middle ? losses[0] : 0)) < least) {
                     all += 1L << (HOLE_BITS + SUM_BITS);
                 }
-                int after = window & ((1 << (4 * far)) - 1);
+                int after = (window + beat) & ((1 << (4 * far)) - 1);
                 then[after] = Math.min(then[after], all);
             }
         }
 
-        /** Whether the HOLE in the middle of a window is SLOW. */
-        private boolean isSlowIn(int window, int hole, int far) {
-            if (!isThere(hole)) {
-                return false;
+        /** PACE of the HOLE in the middle of a window, without what the latest HOLE takes of it. */
+        private int paceIn(int window, int middle, int far) {
+            int pace = 100;
+            for (int place = 1; place <= 2 * far; place++) {
+                pace -= beatIn(window, place) == middle ? losses[place] : 0;
             }
-            int beat = beatIn(window, far);
-            int speed = 100;
-            for (int away = 1; away <= far; away++) {
-                if (isThere(hole - away) && beatIn(window, far + away) == beat) {
-                    speed -= shares[away];
-                }
-                if (isThere(hole + away) && beatIn(window, far - away) == beat) {
-                    speed -= shares[away];
-                }
-            }
-            return Math.max(0, speed) < least;
+            return pace;
         }
 
         private static int beatIn(int window, int place) {
