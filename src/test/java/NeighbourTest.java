@@ -118,6 +118,9 @@ public final class NeighbourTest {
     C.due("39: nothing given", x.phases(0, 1, -1), 0);
     C.due("39: nothing given, sum", x.phases(0, 1, -2), 0);
     C.due("35: PHASES stay", x.phase(6, 0), 0);
+    C.due("39: ahead of another LIMIT", x.phases(3, 0, -2), 1);
+    x.limit(0);
+    C.due("39: LIMIT 0", x.phases(3, 0, -2), 0);
     x.limit(100);
     C.due("39: LIMIT 100: two are 2 away or nearer", x.phases(3, 0, -1), 0);
     C.due("39: sum", x.phases(3, 0, -2), 4);

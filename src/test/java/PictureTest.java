@@ -40,6 +40,27 @@ public final class PictureTest {
     C.due("10: second ROW", x.wished(16), 1);
     x.feed(0xff000000, 0, 0, 0, 0);
     C.due("8: byte 255", x.picture(1), -9);
+    firstBytes("(ab)!", 4, 3, -1);
+    firstBytes("(ab)", 3, -9, 3);
+    firstBytes("12a", 1, -9, 1);
+    firstBytes("b12a", 2, -9, 2);
+    firstBytes("a/=", 2, 1, -1);
+    firstBytes("a/", 1, 1, -1);
+    firstBytes("17a", 1, -9, 1);
+    firstBytes("a" + "()".repeat(149) + "b", 300, 3, -1);
+    firstBytes("a" + "()".repeat(149) + "2", 300, -9, 300);
+    firstBytes("a" + "()".repeat(149) + "(", 300, -9, 300);
+    firstBytes("0".repeat(299) + "2", 300, -9, 300);
+    firstBytes("0".repeat(298) + "2a", 300, 2, -1);
+    firstBytes("0".repeat(300), 300, -8, 0);
+  }
+
+  /** What stands behind the first n bytes does not count. */
+  private static void firstBytes(String text, int n, int answer, int place) {
+    DropPens x = new DropPens();
+    Check.feed(x, text);
+    C.due("8: first " + n + " of " + text, x.picture(n), answer);
+    C.due("9: first " + n + " of " + text, x.fault(), place);
   }
 
   private static void drawn(String text, String... rows) {
