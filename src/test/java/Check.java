@@ -6,6 +6,8 @@ final class Check {
   }
 
   private final String test;
+  /** The name of the test that runs now; empty where a class has no names of its own. */
+  private String name = "";
   private int looked = 0;
   private int wrong = 0;
 
@@ -13,10 +15,25 @@ final class Check {
     this.test = test;
   }
 
+  void begin(String newName) {
+    name = " " + newName;
+  }
+
+  int looked() {
+    return looked;
+  }
+
   void due(String call, long got, long want) {
     looked++;
     if (got != want) {
       tell(call + " answered " + got + ", due is " + want);
+    }
+  }
+
+  void same(String call, String got, String want) {
+    looked++;
+    if (!got.equals(want)) {
+      tell(call + " is " + got + ", due is " + want);
     }
   }
 
@@ -39,6 +56,16 @@ final class Check {
     tell(call + " " + got + ", due is " + want.getSimpleName());
   }
 
+  /** Whatever it answers, no exception is due. */
+  void taken(String call, Call made) {
+    looked++;
+    try {
+      made.answer();
+    } catch (RuntimeException e) {
+      tell(call + " threw " + e + ", but is to be taken");
+    }
+  }
+
   void noHole(String call, Call made) {
     throwing(call, IndexOutOfBoundsException.class, made);
   }
@@ -58,7 +85,7 @@ final class Check {
   void tell(String what) {
     wrong++;
     if (wrong <= 40) {
-      System.out.println(test + ": " + what);
+      System.out.println(test + name + ": " + what);
     }
   }
 
