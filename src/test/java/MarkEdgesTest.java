@@ -135,6 +135,69 @@ public final class MarkEdgesTest {
     c.due("LEAN of HOLE 0", x.digest(), none.subtract(BigInteger.valueOf(31).pow(902).shiftLeft(1)).intValue());
   }
 
+  private static int hash(int[] numbers) {
+    BigInteger sum = BigInteger.valueOf(17);
+    for (int number : numbers) {
+      sum = sum.multiply(BigInteger.valueOf(31)).add(BigInteger.valueOf(number));
+    }
+    return sum.intValue();
+  }
+
+  /** "HOLE by HOLE LEAN, 1 if SHUT (else 0), WAITED, PHASE; .. CELL by CELL WISHED, DOTS; INK 0 to 4; .." */
+  static void p50_eachNumberAtItsPlace(Check c) {
+    int[] all = new int[903];
+    DropPens x = new DropPens();
+    x.lean(23, 2);
+    all[4 * 23] = 2;
+    c.due("LEAN", x.digest(), hash(all));
+    x.shut(23, true);
+    all[4 * 23 + 1] = 1;
+    c.due("SHUT", x.digest(), hash(all));
+    x.phase(23, 2);
+    all[4 * 23 + 3] = 2;
+    c.due("PHASE", x.digest(), hash(all));
+    x.wish(383, 3);
+    all[96 + 2 * 383] = 3;
+    x.wish(0, 1);
+    all[96] = 1;
+    c.due("WISHED", x.digest(), hash(all));
+    x.fill(100);
+    all[864] = 100;
+    all[865] = 100;
+    c.due("INK 0 and 1", x.digest(), hash(all));
+    x.toll(0, 50);
+    all[869] = 50;
+    x.toll(23, 1);
+    all[892] = 1;
+    c.due("TOLLS", x.digest(), hash(all));
+    x.bad(0, 8);
+    all[893] = 8;
+    c.due("NEW", x.digest(), hash(all));
+    x.pass(0);
+    x.wish(383, 0);
+    x.print();
+    x.clear();
+    all[96 + 2 * 383] = 0;
+    for (int hole = 0; hole < 24; hole++) {
+      all[4 * hole + 2] = hole == 0 ? 15 : 16;
+    }
+    all[97] = 1;
+    all[865] = 99;
+    all[866] = 1;
+    c.due("WAITED, DOTS, INK 2", x.digest(), hash(all));
+    x.clean(1);
+    all[865] = 90;
+    all[868] = 9;
+    c.due("INK 4", x.digest(), hash(all));
+    x.spit();
+    for (int hole = 0; hole < 23; hole++) {
+      all[4 * hole + 2] = 0;
+    }
+    all[865] = 67;
+    all[867] = 23;
+    c.due("INK 3", x.digest(), hash(all));
+  }
+
   /** To ask changes nothing. */
   static void p50_askedTwice(Check c) {
     DropPens x = Edges.busy();
@@ -219,7 +282,9 @@ public final class MarkEdgesTest {
     DropPens x = new DropPens();
     x.pass(0);
     x.fill(200);
+    x.wish(16 * 7 + 15, 1);
     x.print();
+    x.wish(16 * 7 + 15, 0);
     x.mark();
     x.lean(23, 2);
     x.shut(22, true);
@@ -227,25 +292,54 @@ public final class MarkEdgesTest {
     x.wish(383, 3);
     x.toll(23, 50);
     x.bad(9, 8);
-    x.spit();
     x.print();
+    x.spit();
     x.clean(10);
     x.fill(1);
     c.due("back", x.back(), 0);
+    c.due("WAITED", x.waited(0), 16);
+    c.due("WAITED no more", x.waited(7), 0);
+    c.due("DOTS", x.dots(16 * 7 + 15), 1);
+    c.due("no DOTS", x.dots(383) + x.dots(383 - 16), 0);
     c.due("SHUT", x.shut(22, false), false);
     c.due("LEAN", x.lean(23, 0), 0);
     c.due("PHASE", x.phase(21, 0), 0);
-    c.due("WAITED", x.waited(0), 16);
     c.due("WISHED", x.wished(383), 0);
-    c.due("DOTS", x.dots(383) + x.dots(383 - 16), 0);
     c.due("TOLL", x.toll(23, 0), 0);
     c.due("NEW", x.bad(9, 0), 0);
-    int[] inks = {200, 200, 0, 0, 0};
+    int[] inks = {200, 199, 1, 0, 0};
     for (int what = 0; what < 5; what++) {
       c.due("INK " + what, x.ink(what), inks[what]);
     }
-    c.due("what is dealt", x.way(-1, 3), 384);
-    c.due("and costs", x.cost(-1), 0);
+  }
+
+  /** What is dealt, bounded, planned and seen goes by the numbers that are back. */
+  static void p52_whatFollowsFromTheNumbers(Check c) {
+    DropPens x = new DropPens();
+    x.pass(0);
+    x.wish(16 * 5, 2);
+    x.toll(5, 4);
+    x.bad(0, 1);
+    int[] before = {x.cost(0), x.given(0, 0, 4), x.bound(0), x.plan(1, -1), x.seen(5), x.phases(0, 0, -2), x.worst(5)};
+    x.mark();
+    x.shut(4, true);
+    x.shut(6, true);
+    x.wish(16 * 5, 3);
+    x.toll(5, 9);
+    x.bad(0, 8);
+    x.phase(5, 1);
+    int[] then = {x.cost(0), x.given(0, 0, 4), x.bound(0), x.plan(1, -1), x.seen(5), x.phases(0, 0, -2), x.worst(5)};
+    x.back();
+    c.due("cost", x.cost(0), before[0]);
+    c.due("given", x.given(0, 0, 4), before[1]);
+    c.due("bound", x.bound(0), before[2]);
+    c.due("plan", x.plan(1, -1), before[3]);
+    c.due("seen", x.seen(5), before[4]);
+    c.due("phases", x.phases(0, 0, -2), before[5]);
+    c.due("worst", x.worst(5), before[6]);
+    c.due("the cost was another", then[0] == before[0], false);
+    c.due("the bound was another", then[2] == before[2], false);
+    c.due("the plan was another", then[3] == before[3], false);
   }
 
   /** "makes them what they were": what the DIGEST has not is not among them. */

@@ -348,6 +348,48 @@ public final class NeighbourEdgesTest {
     best(c, x, 0, 0, 5, 0, 0, 0, 0);
   }
 
+  /** "SLOW: its PACE is below LIMIT", "0 at least". */
+  static void p39_paceAsLimitAndBelow(Check c) {
+    DropPens x = throwing(5, 6);
+    shares(x, 40, 0, 0);
+    x.limit(60);
+    best(c, x, 0, 0, 5, 0, 0);
+    x.limit(61);
+    best(c, x, 0, 1, 5, 0, 1);
+    DropPens y = throwing(5, 6, 7, 8);
+    shares(y, 100, 100, 100);
+    y.limit(1);
+    best(c, y, 2, 3, 5, 0, 0, 1, 2);
+    y.limit(0);
+    best(c, y, 0, 0, 5, 0, 0, 0, 0);
+  }
+
+  /** "1 to 3 HOLES away". */
+  static void p39_threeAwayAndFour(Check c) {
+    DropPens x = throwing(5, 8);
+    shares(x, 0, 0, 1);
+    x.limit(100);
+    c.due("3 away", x.phases(3, 0, -2), 1);
+    c.due("HOLE 8", x.phases(3, 0, 8), 1);
+    DropPens y = throwing(5, 9);
+    shares(y, 100, 100, 100);
+    y.limit(100);
+    c.due("4 away", y.phases(3, 0, -2), 0);
+    c.due("HOLE 9", y.phases(3, 0, 9), 0);
+  }
+
+  /** At the ends of the HEAD, and "the least sum" ahead of "the first": the HOLE that slows both others goes apart. */
+  static void p39_theEndsOfTheHead(Check c) {
+    DropPens x = throwing(0, 1, 3);
+    shares(x, 100, 0, 100);
+    x.limit(100);
+    best(c, x, 0, 1, 0, 1, 0, -3, 0);
+    DropPens y = throwing(20, 22, 23);
+    shares(y, 100, 0, 100);
+    y.limit(100);
+    best(c, y, 0, 1, 20, 0, -3, 0, 1);
+  }
+
   /** "of these the first (HOLE by HOLE the least PHASE)". */
   static void p39_ofTheseTheFirst(Check c) {
     // only neighbours slow one another: 0 1 0 1 and 1 0 1 0 have one sum
@@ -379,6 +421,46 @@ public final class NeighbourEdgesTest {
       x.phase(hole, turns[hole]);
     }
     c.due("set so", x.slow(3, 0), 0);
+  }
+
+  /** Asked in turn for other PASSES and COLUMNS, and behind changes, each answer is its own. */
+  static void p39_askedInTurn(Check c) {
+    DropPens x = throwing(5, 6, 17);
+    x.pass(12);
+    shares(x, 100, 0, 0);
+    x.limit(100);
+    // ROW 17 is thrown by HOLE 5 in PASS 1
+    c.due("PASS 0", x.phases(3, 0, -2), 1);
+    c.due("PASS 1", x.phases(3, 1, -2), 0);
+    c.due("HOLE 5 in PASS 1", x.phases(3, 1, 5), 0);
+    c.due("PASS 0 again", x.phases(3, 0, -2), 1);
+    c.due("another COLUMN", x.phases(4, 0, -2), 0);
+    c.due("COLUMN 3 again", x.phases(3, 0, -2), 1);
+    x.shut(6, true);
+    c.due("a HOLE is SHUT", x.phases(3, 0, -2), 0);
+    x.shut(6, false);
+    c.due("open again", x.phases(3, 0, -2), 1);
+    x.lean(6, 2);
+    c.due("it leans", x.phases(3, 0, -2), 0);
+    x.lean(6, 0);
+    c.due("upright again", x.phases(3, 0, -2), 1);
+    x.wish(16 * 6 + 3, 0);
+    c.due("not WISHED", x.phases(3, 0, -2), 0);
+    x.wish(16 * 6 + 3, 1);
+    c.due("WISHED again", x.phases(3, 0, -2), 1);
+    x.share(1, 0);
+    c.due("no SHARE", x.phases(3, 0, -2), 0);
+    x.share(1, 100);
+    c.due("a SHARE again", x.phases(3, 0, -2), 1);
+    x.limit(0);
+    c.due("LIMIT 0", x.phases(3, 0, -2), 0);
+    x.limit(100);
+    c.due("LIMIT 100 again", x.phases(3, 0, -2), 1);
+    x.mark();
+    x.picture(0);
+    c.due("no PICTURE", x.phases(3, 0, -2), 0);
+    x.back();
+    c.due("back", x.phases(3, 0, -2), 1);
   }
 
   /** The PHASES of the HEAD are not asked for, and stay. */

@@ -120,8 +120,8 @@ public final class OddsTest {
         int v = random.nextInt(i % 2 == 0 ? 101 : 40);
         C.due("40: goes", x.goes(from, to, v), y.goes(from, to, v));
       }
-      for (int from = 0; from < 4; from++) {
-        int seconds = random.nextInt(31);
+      for (int from = i % 2; from < 4; from += 2) {
+        int seconds = random.nextInt(i % 3 == 0 ? 31 : 20);
         C.due("42: likely", x.likely(from, seconds), y.likely(from, seconds));
         for (int to = 0; to < 4; to++) {
           int hundredths = random.nextInt(101);

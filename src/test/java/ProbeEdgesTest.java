@@ -214,6 +214,16 @@ public final class ProbeEdgesTest {
     c.due("one is left of them", x.fewest(), 0);
   }
 
+  /** "in the worst case": what is seen broken may need more TESTS than its sets alone tell. */
+  static void p28_theWorstCaseIsABrokenOne(Check c) {
+    DropPens x = new DropPens();
+    x.search(7, 2);
+    x.test(0, 2, true);
+    c.due("sets", x.test(1, 5, true), 16);
+    c.due("16 sets in 5, not in 4", x.fewest(), 5);
+    c.due("next", x.next(), 0);
+  }
+
   /** "in the worst case one set alone is left": two sets need 1, three need 2, 2 to the power of n need n. */
   static void p28_oneTwoAndThreeTests(Check c) {
     DropPens x = new DropPens();

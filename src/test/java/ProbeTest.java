@@ -1,3 +1,7 @@
+import java.util.ArrayList;
+import java.util.HashMap;
+import java.util.List;
+import java.util.Map;
 import java.util.Random;
 
 /** Promises 25 to 29: TEST PRINTS. */
@@ -9,6 +13,11 @@ public final class ProbeTest {
     tests();
     fewest();
     besidePlain();
+    for (int n = 2; n <= 8; n++) {
+      for (int d = 0; d <= 2; d++) {
+        everyState(n, d);
+      }
+    }
     C.end();
   }
 
@@ -97,7 +106,7 @@ public final class ProbeTest {
 
   private static void besidePlain() {
     Random random = new Random(28);
-    for (int i = 0; i < 400; i++) {
+    for (int i = 0; i < 100; i++) {
       DropPens x = new DropPens();
       Plain y = new Plain();
       int n = 2 + random.nextInt(7);
@@ -115,5 +124,107 @@ public final class ProbeTest {
         }
       }
     }
+  }
+
+  private static List<Integer> sets;
+  private static Map<Long, Integer> known;
+
+  private static boolean breaks(int set, int first, int last) {
+    for (int hole = first; hole <= last; hole++) {
+      if ((set >> hole & 1) == 1) {
+        return true;
+      }
+    }
+    return false;
+  }
+
+  private static long left(long state, int first, int last, boolean broken) {
+    long stay = 0;
+    for (int i = 0; i < sets.size(); i++) {
+      stay |= (state >> i & 1) == 1 && breaks(sets.get(i), first, last) == broken ? 1L << i : 0;
+    }
+    return stay;
+  }
+
+  /** The least number of TESTS in the worst case, without any short cut. */
+  private static int least(long state, int n) {
+    if (Long.bitCount(state) <= 1) {
+      return 0;
+    }
+    Integer was = known.get(state);
+    if (was != null) {
+      return was;
+    }
+    int best = 99;
+    for (int first = 0; first < n; first++) {
+      for (int last = first; last < n; last++) {
+        best = Math.min(best, with(state, n, first, last));
+      }
+    }
+    known.put(state, best);
+    return best;
+  }
+
+  private static int with(long state, int n, int first, int last) {
+    long broken = left(state, first, last, true);
+    long whole = left(state, first, last, false);
+    return broken == 0 || whole == 0 ? 99 : 1 + Math.max(least(broken, n), least(whole, n));
+  }
+
+  private static int firstRun(long state, int n) {
+    int best = least(state, n);
+    for (int run = 0; best > 0 && best <= 5; run++) {
+      if (run / 8 <= run % 8 && run % 8 < n && with(state, n, run / 8, run % 8) == best) {
+        return run;
+      }
+    }
+    return -1;
+  }
+
+  /** Every lot of sets that TESTS can leave, each reached by the fewest TESTS. */
+  private static void everyState(int n, int d) {
+    sets = new ArrayList<>();
+    for (int set = 0; set < 1 << n; set++) {
+      if (Integer.bitCount(set) <= d) {
+        sets.add(set);
+      }
+    }
+    known = new HashMap<>();
+    Map<Long, List<int[]>> ways = new HashMap<>();
+    List<Long> states = new ArrayList<>();
+    states.add((1L << sets.size()) - 1);
+    ways.put(states.get(0), new ArrayList<>());
+    for (int at = 0; at < states.size(); at++) {
+      long state = states.get(at);
+      List<int[]> way = ways.get(state);
+      look(n, d, state, way);
+      for (int run = 0; run < 64 * 2; run++) {
+        int first = run / 2 / 8;
+        int last = run / 2 % 8;
+        if (first <= last && last < n) {
+          long then = left(state, first, last, run % 2 == 1);
+          if (!ways.containsKey(then)) {
+            List<int[]> farther = new ArrayList<>(way);
+            farther.add(new int[] {first, last, run % 2});
+            ways.put(then, farther);
+            states.add(then);
+          }
+        }
+      }
+    }
+  }
+
+  private static void look(int n, int d, long state, List<int[]> way) {
+    DropPens x = new DropPens();
+    x.search(n, d);
+    for (int[] test : way) {
+      x.test(test[0], test[1], test[2] == 1);
+    }
+    int many = Long.bitCount(state);
+    int fewest = least(state, n);
+    String name = "n " + n + " d " + d + " behind " + way.size() + " TESTS, " + Long.toBinaryString(state);
+    C.due("27: " + name, x.dead(-1), many);
+    C.due("28: " + name, x.fewest(), many == 0 || fewest > 5 ? -1 : fewest);
+    C.due("29: " + name, x.next(), many == 0 ? -1 : firstRun(state, n));
   }
 }

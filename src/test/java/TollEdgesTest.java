@@ -206,6 +206,26 @@ public final class TollEdgesTest {
     }
   }
 
+  /** DROPS in the first ROW and in the last one, and such that reach them. */
+  static void p47_theFirstRowAndTheLast(Check c) {
+    for (int row = 0; row <= 23; row += 23) {
+      DropPens x = only(row);
+      x.wish(16 * row, 1);
+      x.toll(row, 7);
+      c.due("its own DROP", x.climb(0), 0);
+      c.due("TOLL", x.toll(row, 0), 0);
+      int beside = row == 0 ? 1 : 22;
+      DropPens y = only(beside);
+      y.wish(16 * row, 1);
+      c.due("the DROP beside it", y.climb(0), 1);
+      c.due("TOLL", y.toll(row, 0), 1);
+      DropPens z = only(row);
+      z.wish(16 * beside, 1);
+      c.due("for the ROW beside it", z.climb(0), 1);
+      c.due("TOLL", z.toll(beside, 0), 1);
+    }
+  }
+
   /**
    * Two UNITS in each of two ROWS, and one DROP that falls in either: the TOLL of each ROW is best at 1 more than the
    * other's, so both go up by 2 a round, to MISS.
